@@ -366,8 +366,8 @@ public final class ChalkBeds {
     /** The rock of a cell, and the layers on it from below. */
     private static final class Cell {
         private static final int FIRST_ROOM = 16;
-        // A call brings fewer than 256 grains on the average (reading a full pad takes its puts, too),
-        // so 512 calls can't bring as many grains, let alone as many layers.
+        // A call brings at most 240 grains on the average: lay 99, read 154 (1,386 with its eight puts), 20 showers
+        // on 12 rocks 240. So 512 calls and a look ahead can't bring as many grains, let alone as many layers.
         private static final int MOST_ROOM = 131072;
 
         int rock;
@@ -415,7 +415,7 @@ public final class ChalkBeds {
         }
 
         void addGrains(int size, int thick) {
-            if (layers > 0 && topSize() == size) {
+            if (layers > 0 && layers <= thicks.length && topSize() == size) {
                 thicks[layers - 1] += thick;
                 grains += thick;
                 return;
@@ -423,7 +423,7 @@ public final class ChalkBeds {
             if (layers >= sizes.length) {
                 makeRoom();
             }
-            if (layers >= 0 && layers < sizes.length) {
+            if (isBelow(layers, sizes.length) && isBelow(layers, thicks.length)) {
                 sizes[layers] = size;
                 thicks[layers] = thick;
                 layers++;
@@ -455,7 +455,7 @@ public final class ChalkBeds {
         }
 
         void copyFrom(Cell other) {
-            if (sizes.length < other.layers) {
+            if (sizes.length < other.layers || thicks.length < other.layers) {
                 sizes = new int[other.sizes.length];
                 thicks = new int[other.thicks.length];
             }

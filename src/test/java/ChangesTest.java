@@ -77,6 +77,12 @@ public final class ChangesTest {
         steep.lay(0, 0, 25);
         due.is("set(STEEP, 5) on a bank", steep.set(4, 5), 30);
         due.is("no bank falls by set", steep.cell(0, 2), 25);
+
+        ChalkBeds least = new ChalkBeds();
+        least.set(0, 1);
+        due.is("set(MIDDLE, 1), as FINE", least.set(1, 1), 12);
+        due.is("set(COARSE, 1), as MIDDLE", least.set(2, 1), 30);
+        due.is("set(FINE, 2) above MIDDLE", least.set(0, 2), ChalkBeds.NOT_POSSIBLE);
     }
 
     private static void setRefuses() {
@@ -192,7 +198,11 @@ public final class ChangesTest {
         beds.read();
         due.is("dig(3, 1)", beds.dig(3, 1), 1);
         due.is("a thinner top", beds.layer(3, 0, 1), 1);
-        due.is("dig(3, 6) through layers", beds.dig(3, 6), 6);
+        due.is("dig(3, 4) through layers", beds.dig(3, 4), 4);
+        due.is("three layers are left", beds.cell(3, 6), 3);
+        due.is("a coarse one", beds.cell(3, 7), 2);
+        due.is("of 1", beds.layer(3, 0, 1), 1);
+        due.is("dig(3, 2) of two layers", beds.dig(3, 2), 2);
         due.is("one layer is left", beds.cell(3, 6), 1);
         due.is("the one below", beds.cell(3, 7), 0);
         due.is("of 5", beds.cell(3, 2), 5);
@@ -201,7 +211,7 @@ public final class ChangesTest {
         due.is("the rock stays", beds.cell(3, 0), 90);
         due.is("dig(3, 1) of nothing", beds.dig(3, 1), 0);
         due.is("count(12)", beds.count(12), 12);
-        due.is("dig counts as a change, always", beds.count(18), 5);
+        due.is("dig counts as a change, always", beds.count(18), 6);
         beds.lay(3, 2, 3);
         due.is("lay on the dug cell", beds.layer(3, 0, 0), 2);
         beds.lay(0, 1, 99);

@@ -14,6 +14,7 @@ public final class QuestionsTest {
         layerTells();
         layerRefuses();
         countTells();
+        countTellsOfAFlatSlope();
         countRefuses();
         waterTells();
         powerTells();
@@ -148,6 +149,19 @@ public final class QuestionsTest {
         sea.rock(11, 200);
         due.is("count(16) to the last cell", sea.count(16), 180);
         due.is("10 is a pool now", sea.count(14), 1);
+    }
+
+    private static void countTellsOfAFlatSlope() {
+        ChalkBeds beds = new ChalkBeds();
+        for (int k = 0; k < 12; k++) {
+            beds.rock(k, 0);
+        }
+        due.is("count(16) of a flat slope", beds.count(16), 0);
+        due.is("count(9) of it", beds.count(9), 0);
+        due.is("count(14) of it: the sea is no lower", beds.count(14), 12);
+        beds.rock(11, 1);
+        due.is("count(16) of a step", beds.count(16), 1);
+        due.is("count(14): 11 has an outlet", beds.count(14), 11);
     }
 
     private static void countRefuses() {
