@@ -9,7 +9,11 @@ final class Due {
     }
 
     void is(String call, long got, long want) {
-        if (got == want) {
+        is(call, Long.toString(got), Long.toString(want));
+    }
+
+    void is(String call, String got, String want) {
+        if (got.equals(want)) {
             right++;
             return;
         }

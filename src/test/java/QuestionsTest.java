@@ -19,11 +19,14 @@ public final class QuestionsTest {
         waterTells();
         powerTells();
         leastRainFinds();
+        leastRainFindsTheFirst();
         leastRainRefuses();
         feedsTells();
         ifRainedTells();
+        ifRainedTellsWhatRainBrings();
         ifRainedRefuses();
         untilBareTells();
+        untilBareTellsWhatRainBrings();
         untilBareRefuses();
         nothingChanges();
         due.end();
@@ -230,6 +233,34 @@ public final class QuestionsTest {
         due.is("leastRain(0, 0) of a pool", beds.leastRain(0, 0), ChalkBeds.NONE);
     }
 
+    private static void leastRainFindsTheFirst() {
+        ChalkBeds beds = new ChalkBeds();
+        beds.set(0, 1);
+        due.is("leastRain(0, 0) of 1", beds.leastRain(0, 0), 1);
+        beds.rock(0, 119);
+        due.is("leastRain(0, 0), a fall of 9", beds.leastRain(0, 0), 2);
+        beds.rock(0, 111);
+        due.is("leastRain(0, 0), a fall of 1", beds.leastRain(0, 0), 10);
+        beds.set(2, 200);
+        beds.set(1, 200);
+        beds.set(0, 6);
+        due.is("leastRain(0, 0) of 6, a fall of 1: 60 divided by 10", beds.leastRain(0, 0), ChalkBeds.NONE);
+        beds.set(0, 5);
+        due.is("leastRain(0, 0) of 5, a fall of 1", beds.leastRain(0, 0), 50);
+        due.is("leastRain(11, 2) of 200: 12 times 17 is 204", beds.leastRain(11, 2), 17);
+        for (int size = 0; size < 3; size++) {
+            for (int cell = 0; cell < 12; cell++) {
+                int least = beds.leastRain(cell, size);
+                int most = least == ChalkBeds.NONE ? 50 : least;
+                boolean enough = beds.power(cell, most) >= beds.count(size);
+                due.is("power at the least rain of " + cell, enough ? 1 : 0, least == ChalkBeds.NONE ? 0 : 1);
+                if (least > 1) {
+                    due.holds("and below it", beds.power(cell, least - 1) < beds.count(size));
+                }
+            }
+        }
+    }
+
     private static void leastRainRefuses() {
         ChalkBeds beds = new ChalkBeds();
         int[] none = {-1, 12, FAR, NEAR};
@@ -292,6 +323,25 @@ public final class QuestionsTest {
         due.is("ifRained(5, 21, 0): more than rain takes", twice.ifRained(5, 21, 0), 21);
     }
 
+    private static void ifRainedTellsWhatRainBrings() {
+        for (int showers : new int[] {1, 2, 20, 21, 49, 50}) {
+            ChalkBeds beds = Witness.full();
+            int[] told = new int[4];
+            for (int what = 0; what < 4; what++) {
+                told[what] = beds.ifRained(17, showers, what);
+            }
+            int rockGrains = beds.count(10);
+            int toSea = 0;
+            for (int left = showers; left > 0; left -= 20) {
+                toSea += beds.rain(17, Math.min(left, 20));
+            }
+            int[] came = {toSea, beds.count(10) - rockGrains, beds.count(8), beds.count(14)};
+            for (int what = 0; what < 4; what++) {
+                due.is("ifRained(17, " + showers + ", " + what + ")", told[what], came[what]);
+            }
+        }
+    }
+
     private static void ifRainedRefuses() {
         ChalkBeds beds = new ChalkBeds();
         int[][] bad = {{0, 1, 0}, {51, 1, 0}, {NEAR, 1, 0}, {FAR, 1, 0}, {1, 0, 0}, {1, 51, 0}, {1, NEAR, 0},
@@ -329,6 +379,30 @@ public final class QuestionsTest {
         due.is("untilBare(3, 1) without a bed", noRock.untilBare(3, 1), 0);
         noRock.lay(3, 2, 1);
         due.is("untilBare(3, 1) of a pool with a bed", noRock.untilBare(3, 1), ChalkBeds.NONE);
+    }
+
+    private static void untilBareTellsWhatRainBrings() {
+        for (int cell = 0; cell < 12; cell++) {
+            for (int rain : new int[] {1, 9, 50}) {
+                ChalkBeds beds = Witness.full();
+                int told = beds.untilBare(cell, rain);
+                int showers = 0;
+                while (beds.cell(cell, 6) > 0 && showers < 51) {
+                    beds.rain(rain, 1);
+                    showers++;
+                }
+                due.is("untilBare(" + cell + ", " + rain + ")", told, showers > 50 ? ChalkBeds.NONE : showers);
+            }
+        }
+        ChalkBeds both = new ChalkBeds();
+        both.set(3, 400);
+        both.set(4, 100);
+        both.lay(0, 0, 25);
+        both.lay(0, 1, 25);
+        due.is("untilBare(0, 9), a grain a shower", both.untilBare(0, 9), 50);
+        due.is("untilBare(0, 20), at most a layer a shower: 9 of 3 or less, twice", both.untilBare(0, 20), 18);
+        both.lay(0, 1, 1);
+        due.is("untilBare(0, 9) of a grain more", both.untilBare(0, 9), ChalkBeds.NONE);
     }
 
     private static void untilBareRefuses() {

@@ -11,16 +11,23 @@ public final class TextsAndStatesTest {
         putAppends();
         putRefuses();
         putIsFull();
+        putFillsUpToSixty();
         wipeEmpties();
         faultTells();
+        faultTellsOfEachSign();
+        faultTellsOfAFullPad();
+        readsNumbersAtTheirEdges();
+        readKeepsTheOrderOfTheText();
         undoGoesBack();
         undoKeepsSix();
+        undoGoesRoundTheHistory();
         undoLeavesPadAndSlots();
         eachChangeIsRecorded();
         onlyChangesAreRecorded();
         saveKeeps();
         saveRefuses();
         restoreBrings();
+        slotsStandApart();
         restoreRefuses();
         due.end();
     }
@@ -67,6 +74,25 @@ public final class TextsAndStatesTest {
         due.is("read() of 60", full.read(), 9 + 7 + 22);
     }
 
+    private static ChalkBeds withPadOf(int signs) {
+        ChalkBeds beds = new ChalkBeds();
+        Texts.put(beds, "0".repeat(signs));
+        return beds;
+    }
+
+    private static void putFillsUpToSixty() {
+        for (int signs = 1; signs <= 8; signs++) {
+            long more = Texts.packed("abcdefgh".substring(0, signs));
+            due.is("put of " + signs + " behind " + (60 - signs), withPadOf(60 - signs).put(more), 60);
+            due.is("put of " + signs + " behind " + (61 - signs), withPadOf(61 - signs).put(more), ChalkBeds.TOO_MANY);
+            due.is("put of " + signs + " behind none", withPadOf(0).put(more), signs);
+        }
+        ChalkBeds beds = withPadOf(60);
+        due.is("wipe() of a full pad", beds.wipe(), 60);
+        due.is("put behind it", beds.put(Texts.packed("0:f1")), 4);
+        due.is("read() behind it", beds.read(), 1);
+    }
+
     private static void wipeEmpties() {
         ChalkBeds beds = new ChalkBeds();
         due.is("wipe() of nothing", beds.wipe(), 0);
@@ -101,6 +127,74 @@ public final class TextsAndStatesTest {
             due.is("fault() of " + t[0], beds.fault(), (Integer) t[1]);
             due.holds("read() of " + t[0], (beds.read() == ChalkBeds.BAD_TEXT) == ((Integer) t[1] != ChalkBeds.NONE));
         }
+    }
+
+    /** Behind a text that can still become whole, each sign: which ones can stand there. */
+    private static void faultTellsOfEachSign() {
+        String digits = "0123456789";
+        String[][] texts = {{"", digits}, {"0", ":"}, {"1", ":01"}, {"2", ":"}, {"9", ":"}, {"10", ":"}, {"11", ":"},
+            {"0:", "fmc"}, {"11:", "fmc"}, {"0:f", "123456789"}, {"0:m", "123456789"}, {"0:c", "123456789"},
+            {"0:f1", digits + ",;"}, {"0:f9", digits + ",;"}, {"0:f10", ",;"}, {"0:f99", ",;"},
+            {"0:f1,", "fmc"}, {"0:f1;", digits}, {"0:f1;0", ":"}, {"0:f1;1", ":01"}, {"0:f1,c1", digits + ",;"}};
+        for (String[] t : texts) {
+            for (char sign = 33; sign <= 126; sign++) {
+                ChalkBeds beds = new ChalkBeds();
+                Texts.put(beds, t[0] + sign);
+                boolean stands = beds.fault() != t[0].length();
+                due.is("can stand behind " + t[0] + ": " + sign, stands ? 1 : 0, t[1].indexOf(sign) >= 0 ? 1 : 0);
+            }
+        }
+    }
+
+    private static void faultTellsOfAFullPad() {
+        String layers = "10:f10,f10,f10,f10,f10,f10,f10,f10,f10,f10,f10,f10,f10,f10,";
+        Object[][] texts = {{"f", 60}, {",", 59}, {"1", 59}, {"~", 59}};
+        for (Object[] t : texts) {
+            ChalkBeds beds = new ChalkBeds();
+            due.is("a pad of 60 that ends with " + t[0], Texts.put(beds, layers + t[0]), 60);
+            due.is("its fault", beds.fault(), (Integer) t[1]);
+            due.is("read() of it", beds.read(), ChalkBeds.BAD_TEXT);
+            due.is("it stays", beds.count(17), 60);
+        }
+        ChalkBeds wrongAtFirst = new ChalkBeds();
+        Texts.put(wrongAtFirst, ":" + "0:f1;".repeat(11) + "0:f1");
+        due.is("the first fault is told, not the last one", wrongAtFirst.fault(), 0);
+        ChalkBeds whole = new ChalkBeds();
+        due.is("a whole text of 60", Texts.put(whole, "0:f10;".repeat(9) + "11:c99"), 60);
+        due.is("has no fault", whole.fault(), ChalkBeds.NONE);
+        due.is("read() of it", whole.read(), 189);
+        due.is("nine times on 0", Dump.layers(whole, 0), "f90");
+        due.is("once on 11", Dump.layers(whole, 11), "c99");
+    }
+
+    private static void readsNumbersAtTheirEdges() {
+        for (int cell = 0; cell < 12; cell++) {
+            for (int thick : new int[] {1, 9, 10, 19, 90, 99}) {
+                ChalkBeds beds = new ChalkBeds();
+                Texts.put(beds, cell + ":m" + thick);
+                due.is("read() of " + cell + ":m" + thick, beds.read(), thick);
+                due.is("the bed of " + cell, Dump.layers(beds, cell), "m" + thick);
+                due.is("no other bed", beds.count(8), thick);
+            }
+        }
+        for (String text : new String[] {"12:m1", "0:m0", "0:m100", "00:m1", "0:m01", "011:m1"}) {
+            ChalkBeds beds = new ChalkBeds();
+            Texts.put(beds, text);
+            due.is("read() of " + text, beds.read(), ChalkBeds.BAD_TEXT);
+        }
+    }
+
+    private static void readKeepsTheOrderOfTheText() {
+        ChalkBeds beds = new ChalkBeds();
+        Texts.put(beds, "7:f1,c2;3:m4;7:c3,m5;3:f6");
+        due.is("read()", beds.read(), 21);
+        due.is("the layers of 7 from the top", Dump.layers(beds, 7), "m5 c5 f1");
+        due.is("the layers of 3 from the top", Dump.layers(beds, 3), "f6 m4");
+        Texts.put(beds, "3:f1");
+        beds.read();
+        due.is("read() on a bed", Dump.layers(beds, 3), "f7 m4");
+        due.is("fault() behind read(): the pad is empty", beds.fault(), 0);
+        due.is("read() behind read()", beds.read(), ChalkBeds.BAD_TEXT);
     }
 
     private static void undoGoesBack() {
@@ -143,6 +237,34 @@ public final class TextsAndStatesTest {
         due.is("again", beds.undo(), 1);
         due.is("and again", beds.undo(), 0);
         due.is("two grains are left", beds.count(8), 2);
+    }
+
+    /** Many changes and undos by turns, so that the history begins at each of its places. */
+    private static void undoGoesRoundTheHistory() {
+        ChalkBeds beds = new ChalkBeds();
+        int grains = 0;
+        int kept = 0;
+        for (int round = 0; round < 15; round++) {
+            for (int i = 0; i < 5; i++) {
+                beds.lay(0, 0, 1);
+                grains++;
+            }
+            kept = Math.min(kept + 5, 6);
+            due.is("count(18) in round " + round, beds.count(18), kept);
+            for (int i = 0; i < 4; i++) {
+                grains--;
+                kept--;
+                due.is("undo() in round " + round, beds.undo(), kept);
+                due.is("grains in round " + round, beds.count(8), grains);
+            }
+        }
+        for (int i = kept; i > 0; i--) {
+            due.is("undo() at last", beds.undo(), i - 1);
+        }
+        due.is("undo() of nothing", beds.undo(), ChalkBeds.NOT_POSSIBLE);
+        due.is("grains that can't be undone", beds.count(8), grains - kept);
+        beds.lay(0, 0, 1);
+        due.is("a history that was emptied takes changes", beds.undo(), 0);
     }
 
     private static void undoLeavesPadAndSlots() {
@@ -231,14 +353,14 @@ public final class TextsAndStatesTest {
         beds.read();
         beds.rain(30, 2);
         beds.save(0);
-        String saved = Dump.of(beds);
+        String saved = Dump.state(beds);
         beds.set(4, 77);
         beds.lay(3, 0, 50);
         beds.rain(50, 20);
         beds.dig(2, 99);
         int left = beds.count(8);
         int inBeds = beds.restore(0);
-        due.holds("restore brings back all", sameButHistory(saved, Dump.of(beds)));
+        due.is("restore brings back all", Dump.state(beds), saved);
         due.is("restore() tells the grains", inBeds, beds.count(8));
         due.is("restore counts as a change", beds.count(18), 6);
         due.is("undo() of restore", beds.undo(), 5);
@@ -253,15 +375,26 @@ public final class TextsAndStatesTest {
         due.is("what is laid behind it is not in the slot", beds.restore(0), inBeds);
     }
 
-    /** The number of changes, the last one of the counts, is not what a slot brings back. */
-    private static boolean sameButHistory(String one, String other) {
-        return withoutHistory(one).equals(withoutHistory(other));
-    }
-
-    private static String withoutHistory(String dump) {
-        int end = dump.indexOf(" |");
-        String counts = dump.substring(0, end < 0 ? dump.indexOf('|') : end).trim();
-        return counts.substring(0, counts.lastIndexOf(' ')) + dump.substring(dump.indexOf('|'));
+    private static void slotsStandApart() {
+        ChalkBeds beds = new ChalkBeds();
+        beds.lay(0, 0, 3);
+        beds.save(0);
+        due.is("nothing is saved in 1", beds.restore(1), ChalkBeds.NOT_POSSIBLE);
+        beds.lay(0, 0, 4);
+        beds.save(1);
+        beds.lay(0, 0, 5);
+        due.is("restore(0)", beds.restore(0), 3);
+        due.is("restore(1)", beds.restore(1), 7);
+        due.is("restore(1) again", beds.restore(1), 7);
+        beds.lay(0, 0, 1);
+        due.is("save(1) over the last", beds.save(1), 8);
+        due.is("restore(0) is still the first", beds.restore(0), 3);
+        due.is("restore(1) is the last", beds.restore(1), 8);
+        for (int i = 0; i < 6; i++) {
+            beds.undo();
+        }
+        due.is("undo leaves what was saved", beds.restore(1), 8);
+        due.is("in both", beds.restore(0), 3);
     }
 
     private static void restoreRefuses() {
